@@ -62,6 +62,11 @@ public final class Promise06ReadTest {
         reads(8, "G1T1;", -3);
         reads(8, "G1x1;", -3);
         reads(8, "G1X", -4);
+        reads(8, "G1Y", -4);
+        reads(8, "G1Z", -4);
+        reads(8, "G1X1Y", -6);
+        reads(8, "G1Y1Z", -6);
+        reads(8, "T0;G1X1Y1Z", -11);
         reads(8, "G1X;", -4);
         reads(8, "G1XY1;", -4);
         reads(8, "G1X-1;", -4);

@@ -75,6 +75,12 @@ public final class Promise11ReachedTest {
 
     /** The disc ends at the grid's edge, its middle stays on the grid. */
     private static void edge() {
+        int[][] ends = {{11, 5}, {0, 5}, {5, 11}, {5, 0}, {11, 11}, {0, 0}};
+        for (int[] end : ends) {
+            RouterPaths notch = withTools(12);
+            notch.target(end[0], end[1], end[0], end[1], 0);
+            isReached(notch, 1, 0, 0, 0);
+        }
         RouterPaths r = withTools(12);
         r.target(0, 0, 1, 1, 0);
         isReached(r, 4, 3, 0, 0);

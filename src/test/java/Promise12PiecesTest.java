@@ -17,10 +17,21 @@ public final class Promise12PiecesTest {
         due.is("targets and kept cells don't matter", r.pieces(), 4);
         r.blank();
         due.is("blank", r.pieces(), 1);
+        bends();
         corners();
         winding();
         nothing();
         due.end();
+    }
+
+    /** Each of the four leaves three cells that hang together round another bend. */
+    private static void bends() {
+        String[] moves = {"G1Z0;", "G0X1;G1Z0;", "G0Y1;G1Z0;", "G0X1Y1;G1Z0;"};
+        for (String move : moves) {
+            RouterPaths r = new RouterPaths(2);
+            due.is("run", Due.running(r, move), 0);
+            due.is("a bend", r.pieces(), 1);
+        }
     }
 
     /** Cells that meet at a corner alone don't hang together. */
