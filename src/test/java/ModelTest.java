@@ -1,10 +1,13 @@
 import java.util.function.LongSupplier;
 
-/** Long runs of calls, each answer compared with the model's, and the whole state at times. */
+/**
+ * Long runs of calls, each answer compared with the model's, and the whole state at times. Looking at
+ * every cell takes more than the 512 calls that are promised of an object; the class counts none.
+ */
 public final class ModelTest {
     private static final Due due = new Due("ModelTest");
     private static final int RUNS = 300;
-    private static final int CALLS = 512;
+    private static final int ROUNDS = 512;
     private long seed;
     private final RouterPaths router;
     private final Model model;
@@ -25,8 +28,8 @@ public final class ModelTest {
     public static void main(String[] args) {
         for (int run = 0; run < RUNS; run++) {
             ModelTest test = new ModelTest(run);
-            for (int call = 0; call < CALLS; call++) {
-                test.call(run + "." + call);
+            for (int round = 0; round < ROUNDS; round++) {
+                test.round(run + "." + round);
             }
             test.compareCells("cells of run " + run);
         }
@@ -50,7 +53,7 @@ public final class ModelTest {
         }
     }
 
-    private void call(String name) {
+    private void round(String name) {
         if (typed < waiting.length()) {
             int u = below(200) == 0 ? near(32, 126) : waiting.charAt(typed++);
             same(name + " unit " + u, () -> router.unit(u) ? 1 : 0, () -> model.unit(u) ? 1 : 0);
