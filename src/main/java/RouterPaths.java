@@ -281,7 +281,7 @@ public final class RouterPaths {
             for (int row = Math.max(0, y - tool.radius); row <= bottom; row++) {
                 int halfWidth = tool.halfWidths[Math.abs(row - y)];
                 int right = Math.min(side - 1, x + halfWidth);
-                for (int column = Math.max(0, x - halfWidth); column <= right; column++) {
+                for (int column = Math.max(0, x - halfWidth); column <= right && discSize < cells; column++) {
                     disc[discSize] = placeOf(column, row);
                     discSize++;
                 }

@@ -1,14 +1,14 @@
 import java.util.function.LongSupplier;
 
-/**
- * Long runs of calls, each answer compared with the model's, and the whole state at times. Looking at
- * every cell takes more than the 512 calls that are promised of an object; the class counts none.
- */
+/** Runs of all the 512 calls that are promised of an object, each answer compared with the model's. */
 public final class ModelTest {
     private static final Due due = new Due("ModelTest");
-    private static final int RUNS = 300;
-    private static final int ROUNDS = 512;
+    private static final int RUNS = 4000;
+    private static final int CALLS = 512;
+    /** Kept for a look at many cells in the end. */
+    private static final int LAST_LOOK = 80;
     private long seed;
+    private int left = CALLS;
     private final RouterPaths router;
     private final Model model;
     private String waiting = "";
@@ -28,10 +28,10 @@ public final class ModelTest {
     public static void main(String[] args) {
         for (int run = 0; run < RUNS; run++) {
             ModelTest test = new ModelTest(run);
-            for (int round = 0; round < ROUNDS; round++) {
-                test.round(run + "." + round);
+            while (test.left > LAST_LOOK) {
+                test.round(run + "." + test.left);
             }
-            test.compareCells("cells of run " + run);
+            test.compareCells(run + " at last", test.left);
         }
         due.end();
     }
@@ -78,6 +78,7 @@ public final class ModelTest {
     }
 
     private void same(String name, LongSupplier got, LongSupplier want) {
+        left--;
         due.is(name, outcome(got), outcome(want));
     }
 
@@ -126,7 +127,7 @@ public final class ModelTest {
             int asked = what;
             same(name + " check " + what, () -> router.check(asked), () -> model.check(asked));
         }
-        compareCells(name + " cells");
+        compareCells(name, 9);
     }
 
     private void ask(String name) {
@@ -143,17 +144,18 @@ public final class ModelTest {
 
     private void blankOut(String name) {
         if (below(2) == 0) {
-            router.blank();
-            model.blank();
+            same(name + " blank", () -> { router.blank(); return 0; }, () -> { model.blank(); return 0; });
         }
-        compareCells(name + " blank");
+        compareCells(name, 3);
     }
 
-    private void compareCells(String name) {
-        for (int c = 0; c < 3 * model.side * model.side; c++) {
-            int x = c / 3 % model.side;
-            int y = c / 3 / model.side;
-            due.is(name, router.cell(x, y, c % 3), model.cell(x, y, c % 3));
+    /** Heights more often than what else a cell has, as these change most. */
+    private void compareCells(String name, int many) {
+        for (int n = 0; n < many; n++) {
+            int x = below(model.side);
+            int y = below(model.side);
+            int what = below(4) == 0 ? below(3) : 0;
+            same(name + " cell " + x + " " + y + " " + what, () -> router.cell(x, y, what), () -> model.cell(x, y, what));
         }
     }
 

@@ -16,14 +16,10 @@ public final class Promise01NewObjectTest {
 
     private static void isFresh(int asked, int side) {
         String name = "RouterPaths(" + asked + ")";
-        RouterPaths r = new RouterPaths(asked);
-        for (int y = 0; y < side; y++) {
-            for (int x = 0; x < side; x++) {
-                due.is(name + " height", r.cell(x, y, 0), 100);
-                due.is(name + " target", r.cell(x, y, 1), 100);
-                due.is(name + " kept", r.cell(x, y, 2), 0);
-            }
+        for (int what = 0; what < 3; what++) {
+            isFreshCells(name, new RouterPaths(asked), side, what);
         }
+        RouterPaths r = new RouterPaths(asked);
         due.index(name + " x beyond", () -> r.cell(side, 0, 0));
         due.index(name + " y beyond", () -> r.cell(0, side, 0));
         due.state(name + " run", r::run);
@@ -34,6 +30,13 @@ public final class Promise01NewObjectTest {
         due.is(name + " first deep", r.check(3), RouterPaths.NONE);
         due.is(name + " pieces", r.pieces(), 1);
         due.is(name + " text", r.read(), -1);
+    }
+
+    /** An object for each question, as 512 calls are promised of one. */
+    private static void isFreshCells(String name, RouterPaths r, int side, int what) {
+        for (int c = 0; c < side * side; c++) {
+            due.is(name + " cell " + c + ", what " + what, r.cell(c % side, c / side, what), what == 2 ? 0 : 100);
+        }
     }
 
     /** RADIUS 0 and FEED 1: each tool cuts the one cell below it, a unit of time a step. */
